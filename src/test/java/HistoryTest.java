@@ -89,6 +89,10 @@ public final class HistoryTest {
         Script.run("promise 34, a pin comes back to its place", "net(false); pin(0, 1, 1); save(); undo(); "
                 + "pin(0, 2, 2) = 0; pinOf(0, 0) = 18; restore() = 1; pinOf(0, 0) = 9; at(1, 1, 1) = 0; "
                 + "at(2, 2, 0) = -1");
+        Script.run("promise 34, pins of the last net", "net(false); net(false); net(false); net(false); net(false); "
+                + "net(false); pin(5, 0, 1); pin(5, 0, 2); pin(5, 0, 3); pin(5, 0, 4) = 3; save() = 6; undo(); undo(); "
+                + "undo(); undo(); pin(5, 4, 1); pin(5, 4, 2); pin(5, 4, 3); pin(5, 4, 4) = 3; restore() = 6; "
+                + "pinOf(5, 0) = 1; pinOf(5, 3) = 4; route(5) = 3; at(4, 4, 0) = -1");
         Script.run("promise 34, what stays", TWO + "save(); type(\"w0\"); commands() = " + ARGUMENT + "type(\"r0\"); "
                 + "route(5) = throws UnsupportedOperationException; line(0, 0) = 8; restore() = 2; account(9) = 2; "
                 + "faultPosition() = 2; reason(0) = 3; reason(1) = 5; character(3) = 'A'");
