@@ -160,6 +160,33 @@ public final class ModelTest {
         if (model.holes().equals("12")) {
             seen.merge("holes 12", 1, Integer::sum);
         }
+        alwaysSo(at, board);
+    }
+
+    /** What the document tells of every state: two nets never touch where one is wide, and both ways answer the same. */
+    private static void alwaysSo(String at, WireBoard board) {
+        for (int cell = 0; cell < 96; cell++) {
+            int row = cell / 16;
+            int column = cell / 2 % 8;
+            int layer = cell % 2;
+            if (row < 5) {
+                neverTouch(at, board, board.at(row, column, layer), board.at(row + 1, column, layer));
+            }
+            if (column < 7) {
+                neverTouch(at, board, board.at(row, column, layer), board.at(row, column + 1, layer));
+            }
+        }
+        Script.check(at + " holes in two ways", board.holes() == board.holesAgain() && board.holes() <= 12);
+        for (int net = 0; net < board.account(0); net++) {
+            Script.check(at + " cells in two ways", board.cellsOf(net) == board.cellsAgain(net));
+        }
+    }
+
+    private static void neverTouch(String at, WireBoard board, int one, int other) {
+        if (one >= 0 && other >= 0 && one != other) {
+            Script.check(at + " two nets never touch where one of them is wide", board.netOf(one, 0) == 0
+                    && board.netOf(other, 0) == 0);
+        }
     }
 
     private static String word() {
