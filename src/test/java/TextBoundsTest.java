@@ -130,6 +130,11 @@ public final class TextBoundsTest {
                 + "netOf(0, 2) = 0; netOf(0, 1) = 2; account(3) = 0; at(5, 5, 0) = -1; account(8) = 3; undo() = 2");
         Script.run("none if one between is refused", routed + Bounds.refusedText("r0;x0;x0;w550", 11, 0, 2)
                 + "netOf(0, 2) = 0; netOf(0, 6) = 0; account(7) = 0; account(3) = 0; account(8) = 3");
+        Script.run("nets that a hard way ripped come back if a later command is refused", "net(false); net(false); "
+                + Bounds.pins(0, 20, 27) + Bounds.pins(1, 15, 35) + Bounds.walls(211, 221, 231, 241, 251, 261) + "route(0) = 7; "
+                + Bounds.refusedText("h1;x1;x1", 11, 1, 2) + "netOf(0, 2) = 1; netOf(0, 6) = 0; netOf(1, 6) = 0; "
+                + "at(2, 5, 0) = 0; account(8) = 8; " + Bounds.carriedOut("h1;x1", 2) + "netOf(0, 6) = 1; netOf(1, 6) = 1; "
+                + "at(2, 5, 0) = -1; undo() = 7; at(2, 5, 0) = 0; netOf(0, 3) = 7");
     }
 
     private static void numbers() {

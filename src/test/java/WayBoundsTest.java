@@ -149,14 +149,14 @@ public final class WayBoundsTest {
     }
 
     private static void longestWay() {
-        int[] walls = {3, 5, 8, 9, 11, 14, 16, 17, 20, 22, 23, 26, 29, 30, 33, 35, 36, 38, 40, 43, 46, 49, 50, 51, 55, 57,
-            58, 60, 61, 62, 66, 67, 71, 72, 74, 75, 77, 78, 81, 84, 87, 90, 93};
-        StringBuilder calls = new StringBuilder("net(false); " + Bounds.pins(0, 17, 37));
+        int[] walls = {3, 5, 8, 9, 10, 13, 14, 18, 20, 21, 25, 26, 28, 29, 31, 32, 35, 38, 42, 45, 49, 53, 58, 59, 60, 63, 64,
+            67, 70, 71, 73, 74, 77, 80, 81, 83, 84, 86, 89, 92, 95};
+        StringBuilder calls = new StringBuilder("net(false); " + Bounds.pins(0, 50, 30));
         for (int wall : walls) {
             calls.append("wall(" + wall % 48 / 8 + ", " + wall % 8 + ", " + wall / 48 + "); ");
         }
-        Script.run("a way of 47 cells", calls + "wouldCost(0) = 92; route(0) = 92; netOf(0, 4) = 47; cellsOf(0) = 51; "
-                + "cellsAgain(0) = 51; netOf(0, 5) = 12; holes() = 12; holesAgain() = 12; rip(0) = 47; hard(0) = 0");
+        Script.run("a way of 49 cells", calls + "wouldCost(0) = 93; route(0) = 93; netOf(0, 4) = 49; cellsOf(0) = 53; "
+                + "cellsAgain(0) = 53; netOf(0, 5) = 12; holes() = 12; holesAgain() = 12; rip(0) = 49; hard(0) = 0");
     }
 
     private static void noWay() {
