@@ -78,4 +78,16 @@ final class Bounds {
         }
         return calls.toString();
     }
+
+    /** Six nets, of which five lie along the rows 0 to 4, each with two holes; the row 5 is free for net 5. */
+    static String tenHoles() {
+        StringBuilder calls = new StringBuilder(SIX_NETS);
+        for (int row = 0; row < 6; row++) {
+            calls.append("wall(" + row + ", 1, 0); wall(" + row + ", 3, 1); wall(" + row + ", 5, 0); ");
+        }
+        for (int row = 0; row < 5; row++) {
+            calls.append(pins(row, 10 * row, 10 * row + 6) + "route(" + row + ") = 16; ");
+        }
+        return calls + "pin(5, 5, 0) = 0; wall(5, 7, 1) = 19; holes() = 10; ";
+    }
 }

@@ -110,22 +110,11 @@ public final class ReasonBoundsTest {
                 + Bounds.refused("hard(0)", 9, 2) + "tearDown(4, 7, 1); route(0) = 15");
     }
 
-    /** Each of five nets makes two holes; net 5 would make three, or two if its last pin is in the same row. */
-    private static String rows(String lastPin) {
-        StringBuilder calls = new StringBuilder(Bounds.SIX_NETS);
-        for (int row = 0; row < 6; row++) {
-            calls.append("wall(" + row + ", 1, 0); wall(" + row + ", 3, 1); wall(" + row + ", 5, 0); ");
-        }
-        for (int row = 0; row < 5; row++) {
-            calls.append(Bounds.pins(row, 10 * row, 10 * row + 6) + "route(" + row + ") = 16; ");
-        }
-        return calls + "pin(5, 5, 0); wall(5, 7, 1); pin(5, " + lastPin + "); holes() = 10; ";
-    }
-
     private static void holes() {
-        Script.run("10, there would not be more than 12 holes", rows("5, 6") + "route(5) = 16; holes() = 12; "
+        Script.run("10, there would not be more than 12 holes", Bounds.tenHoles() + "pin(5, 5, 6) = 1; route(5) = 16; holes() = 12; "
                 + "holesAgain() = 12; rip(5) = 7; hard(5) = 0; holes() = 12");
-        Script.run("10, there would be more than 12 holes: how many", rows("4, 7") + Bounds.refused("route(5)", 10, 13)
+        Script.run("10, there would be more than 12 holes: how many", Bounds.tenHoles() + "pin(5, 4, 7) = 1; "
+                + Bounds.refused("route(5)", 10, 13)
                 + Bounds.refused("hard(5)", 10, 13) + "wouldCost(5) = 22; wouldRip(5) = 0; holes() = 10; netOf(5, 2) = 0; "
                 + "rip(0); route(5) = 22; holes() = 11; " + Bounds.refused("route(0)", 10, 13) + "wouldCost(0) = 16; "
                 + Bounds.refused("hard(0)", 10, 13) + "rip(5); route(0) = 16; holes() = 10");

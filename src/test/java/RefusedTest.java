@@ -175,18 +175,11 @@ public final class RefusedTest {
         }
     }
 
-    /** Twelve holes are there, so that a way with one more is refused. */
+    /** Ten holes are there, so that a way with three more is refused. */
     private static void holes() {
-        StringBuilder setup = new StringBuilder(Bounds.SIX_NETS);
-        for (int row = 0; row < 6; row++) {
-            setup.append("wall(" + row + ", 1, 0); wall(" + row + ", 3, 1); wall(" + row + ", 5, 0); ");
-        }
-        for (int row = 0; row < 5; row++) {
-            setup.append(Bounds.pins(row, 10 * row, 10 * row + 6) + "route(" + row + ") = 16; ");
-        }
-        setup.append(Bounds.pins(5, 50, 47) + "wall(5, 7, 1); save(); wall(0, 7, 0); line(0, 0) = 10; ");
+        String setup = Bounds.tenHoles() + "pin(5, 4, 7) = 1; save(); wall(0, 7, 0); line(0, 0) = 10; ";
         for (String call : new String[] {"route(5)", "hard(5)"}) {
-            unchanged(setup.toString(), call, call + " = throws UnsupportedOperationException; ",
+            unchanged(setup, call, call + " = throws UnsupportedOperationException; ",
                     Bounds.reason(10, 13, 0));
         }
     }
