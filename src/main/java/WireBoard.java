@@ -205,11 +205,13 @@ public final class WireBoard {
             throw new IllegalArgumentException("the text has a fault");
         }
         history.prepare();
+        int at = 0;
         int done = 0;
         boolean isRefused = false;
-        for (int at = 0; at < text.length && !isRefused; at += text.commandLength(at) + 1) {
+        while (done < MOST_SIGNS && at < text.length && !isRefused) {
             refusal.commandNow = done;
             isRefused = carryOut(at) == REFUSED;
+            at += text.commandLength(at) + 1;
             done++;
         }
         refusal.commandNow = 0;
